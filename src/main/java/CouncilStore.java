@@ -359,15 +359,13 @@ public final class CouncilStore {
             throw new IllegalArgumentException("a KEY and an END, a REVISION from 0 on, what 0 to 3");
         }
         Store store = storeAt(upMember(node), revision);
-        int from = store.placeOf(given[0]);
-        int to = store.placeBehind(from, given[0], given[1]);
         if (what == 0) {
-            return to - from;
+            return store.pairsInside(given[0], given[1]);
         }
-        if (i < 0 || i >= to - from) {
+        Pair found = store.pairInside(given[0], given[1], i);
+        if (found == null) {
             throw new NoSuchElementException("no such PAIR in the RANGE");
         }
-        Pair found = store.pairs.get(from + i);
         if (what == 1) {
             return found.key.length;
         }
@@ -558,6 +556,16 @@ public final class CouncilStore {
             }
         }
         return a.length - b.length;
+    }
+
+    /** Whether a KEY is in the RANGE of another and an END. */
+    private static boolean isInside(byte[] found, byte[] key, byte[] end) {
+        int order = compareBytes(found, key);
+        if (end.length == 0) {
+            return order == 0;
+        }
+        boolean endless = end.length == 1 && end[0] == 0;
+        return order >= 0 && (endless || compareBytes(found, end) < 0);
     }
 
     // ---- who is there
@@ -981,15 +989,25 @@ public final class CouncilStore {
             return isAt(place, key) ? pairs.get(place) : null;
         }
 
-        /** Of the first PAIR behind the RANGE that begins at a place. */
-        int placeBehind(int from, byte[] key, byte[] end) {
-            if (end.length == 0) {
-                return isAt(from, key) ? from + 1 : from;
+        int pairsInside(byte[] key, byte[] end) {
+            int found = 0;
+            for (int i = 0; i < pairs.size(); i++) {
+                found += isInside(pairs.get(i).key, key, end) ? 1 : 0;
             }
-            if (end.length == 1 && end[0] == 0) {
-                return pairs.size();
+            return found;
+        }
+
+        /** Null if there's none. */
+        Pair pairInside(byte[] key, byte[] end, int which) {
+            int before = 0;
+            for (int i = 0; i < pairs.size(); i++) {
+                boolean inside = isInside(pairs.get(i).key, key, end);
+                if (inside && before == which) {
+                    return pairs.get(i);
+                }
+                before += inside ? 1 : 0;
             }
-            return Math.max(from, placeOf(end));
+            return null;
         }
 
         /** Answers what was done; before is room for what the STORE was. */
@@ -1095,9 +1113,10 @@ public final class CouncilStore {
         }
 
         boolean runDelete(Clause step) {
-            int from = placeOf(step.key);
-            for (int i = placeBehind(from, step.key, step.other) - 1; i >= from; i--) {
-                drop(i);
+            for (int i = pairs.size() - 1; i >= 0; i--) {
+                if (isInside(pairs.get(i).key, step.key, step.other)) {
+                    drop(i);
+                }
             }
             return true;
         }
@@ -1137,9 +1156,9 @@ public final class CouncilStore {
                 Pair was = i >= 0 ? before.pairs.get(i) : null;
                 Pair now = j >= 0 ? pairs.get(j) : null;
                 int order = was == null ? -1 : now == null ? 1 : compareBytes(was.key, now.key);
-                if (order > 0) {
+                if (was != null && order > 0) {
                     latest = new Change(revision, was.key, was, null, latest);
-                } else if (now.changed == revision) {
+                } else if (now != null && now.changed == revision) {
                     latest = new Change(revision, now.key, order == 0 ? was : null, now, latest);
                 }
                 i -= order >= 0 ? 1 : 0;
