@@ -4,7 +4,6 @@ public final class CouncilTest {
     private static final int ANSWER = 2;
     private static final int APPEND = 3;
     private static final int TAKEN = 4;
-    private static final int STATE = 5;
 
     public static void main(String[] args) {
         promise9();

@@ -142,11 +142,9 @@ public final class LimitsTest {
         return threads.getThreadAllocatedBytes(Thread.currentThread().getId()) - before;
     }
 
-    /** Half the calls put PAIRS, the others fall and rise, so that all is applied anew. */
-    private static void applyAgain() {
-        CouncilStore x = Due.council(1);
-        x.rise(0);
-        for (int i = 0; i < 60; i++) {
+    /** Four calls a PAIR, and six PAIRS a COMMAND: there's no cheaper way. */
+    private static void putPairs(CouncilStore x, int pairs) {
+        for (int i = 0; i < pairs; i++) {
             x.feed(i << 24, 0, 0, 0, 0);
             x.end(19);
             x.end(0);
@@ -155,6 +153,13 @@ public final class LimitsTest {
                 x.propose(0);
             }
         }
+    }
+
+    /** Half the calls put PAIRS, the others fall and rise, so that all is applied anew. */
+    private static void applyAgain() {
+        CouncilStore x = Due.council(1);
+        x.rise(0);
+        putPairs(x, 60);
         x.sync(0);
         for (int i = 0; i < 62; i++) {
             x.crash(0, 0);
@@ -177,15 +182,7 @@ public final class LimitsTest {
     private static void snapshots() {
         CouncilStore x = Due.council(1);
         x.rise(0);
-        for (int i = 0; i < 54; i++) {
-            x.feed(i << 24, 0, 0, 0, 0);
-            x.end(19);
-            x.end(0);
-            x.put(1, 0);
-            if (i % 6 == 5) {
-                x.propose(0);
-            }
-        }
+        putPairs(x, 54);
         for (int i = 0; i < 90; i++) {
             x.propose(0);
             x.sync(0);
