@@ -33,13 +33,18 @@ final class Due {
         try {
             got = "answered " + run.getAsInt();
         } catch (RuntimeException e) {
-            if (e.getClass() == want) {
+            if (e.getClass() == want && isThrownByTheClass(e)) {
                 return;
             }
-            got = "threw " + e.getClass().getName();
+            got = "threw " + e;
         }
         wrong++;
         System.out.println(where + ": " + call + " " + got + ", due is a throw of " + want.getName());
+    }
+
+    /** A list that is asked for what it hasn't throws FULL's class by itself; only the place tells. */
+    static boolean isThrownByTheClass(Throwable e) {
+        return e.getStackTrace().length > 0 && e.getStackTrace()[0].getClassName().startsWith("CouncilStore");
     }
 
     static void dueThrows(String call, Class<?> want, Runnable run) {
@@ -47,6 +52,86 @@ final class Due {
             run.run();
             return 0;
         });
+    }
+
+    /** A call that is refused, in whatever way, changes nothing. */
+    static void dueRefused(CouncilStore x, String call, Class<?> want, Runnable run) {
+        String before = all(x);
+        dueThrows(call, want, run);
+        dueSame(call + " left all as it was", all(x), before);
+    }
+
+    static void dueSame(String call, String got, String want) {
+        asked++;
+        if (!got.equals(want)) {
+            wrong++;
+            System.out.println(where + ": " + call + " isn't so:\n" + want + got);
+        }
+    }
+
+    /** All that can be asked without ARGUMENTS, so that asking changes nothing. */
+    static String all(CouncilStore x) {
+        StringBuilder all = new StringBuilder("count");
+        for (int what = 0; what <= 6; what++) {
+            all.append(' ').append(x.count(what));
+        }
+        for (int i = 0; i < x.count(2); i++) {
+            all.append("\nmessage");
+            for (int what = 0; what <= 8; what++) {
+                all.append(' ').append(x.message(i, what));
+            }
+        }
+        for (int node = 0; node < nodesOf(x); node++) {
+            all.append("\ntold");
+            for (int what = 0; what <= 14; what++) {
+                all.append(' ').append(x.told(node, what));
+            }
+            if (x.told(node, 0) == 0) {
+                addAllOfNode(all, x, node);
+            }
+        }
+        return all.append('\n').toString();
+    }
+
+    private static int nodesOf(CouncilStore x) {
+        int nodes = 0;
+        while (nodes < 7) {
+            int node = nodes;
+            if (answerOf(() -> x.told(node, 0)).equals("-")) {
+                return nodes;
+            }
+            nodes++;
+        }
+        return nodes;
+    }
+
+    private static void addAllOfNode(StringBuilder all, CouncilStore x, int node) {
+        for (int index = 0; index <= x.told(node, 5); index++) {
+            for (int what = 0; what <= 2; what++) {
+                int i = index;
+                int w = what;
+                all.append(' ').append(answerOf(() -> x.outcome(node, i, w)));
+            }
+        }
+        for (int i = 0; i < 20; i++) {
+            for (int what = 0; what <= 3; what++) {
+                int read = i;
+                int w = what;
+                all.append(' ').append(answerOf(() -> x.answer(node, read, w)));
+            }
+        }
+        for (int revision = 1; revision <= x.told(node, 8); revision++) {
+            int r = revision;
+            all.append(' ').append(answerOf(() -> x.event(node, r, 0, 0, 0)));
+        }
+    }
+
+    private static String answerOf(IntSupplier run) {
+        try {
+            return String.valueOf(run.getAsInt());
+        } catch (NoSuchElementException | IllegalStateException e) {
+            return "-";
+        }
     }
 
     static void exit() {

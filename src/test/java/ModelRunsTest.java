@@ -1,14 +1,19 @@
 import java.lang.reflect.InvocationTargetException;
 import java.lang.reflect.Method;
+import java.util.ArrayList;
 import java.util.Arrays;
 import java.util.HashMap;
+import java.util.List;
 import java.util.Map;
 import java.util.Random;
+import java.util.TreeSet;
 
 /** Long runs of calls, drawn from fixed seeds: the class answers as PlainModel does. */
 public final class ModelRunsTest {
     private static final Map<String, Method> REAL = methods(CouncilStore.class);
     private static final Map<String, Method> PLAIN = methods(PlainModel.class);
+    private static final List<String> NAMES = new ArrayList<>(new TreeSet<>(REAL.keySet()));
+    private static final int[] FAR = {Integer.MIN_VALUE, Integer.MIN_VALUE + 1, -1, 100, 1 << 30, Integer.MAX_VALUE - 1, Integer.MAX_VALUE};
     private static final Map<String, Integer> SEEN = new HashMap<>();
 
     private final int seed;
@@ -63,7 +68,8 @@ public final class ModelRunsTest {
         try {
             return String.valueOf(m.invoke(on, args));
         } catch (InvocationTargetException e) {
-            return "throws." + e.getCause().getClass().getSimpleName();
+            boolean thrown = on instanceof PlainModel || Due.isThrownByTheClass(e.getCause());
+            return (thrown ? "throws." : "throws by itself.") + e.getCause().getClass().getSimpleName();
         } catch (IllegalAccessException e) {
             return "no access";
         }
@@ -288,6 +294,9 @@ public final class ModelRunsTest {
     }
 
     private void rare() {
+        if (random.nextInt(4) == 0) {
+            wild();
+        }
         switch (random.nextInt(12)) {
             case 0: case 1:
                 call("lose", messageNumber());
@@ -322,6 +331,17 @@ public final class ModelRunsTest {
             default:
                 call("propose", node());
         }
+    }
+
+    /** Any call, with numbers from far outside as well. */
+    private void wild() {
+        Method any = REAL.get(NAMES.get(random.nextInt(NAMES.size())));
+        Object[] args = new Object[any.getParameterCount()];
+        for (int i = 0; i < args.length; i++) {
+            int number = random.nextInt(3) > 0 ? random.nextInt(4) : FAR[random.nextInt(FAR.length)];
+            args[i] = any.getParameterTypes()[i] == boolean.class ? (Object) (number % 2 == 0) : (Object) number;
+        }
+        call(any.getName(), args);
     }
 
     private void ask() {
