@@ -50,6 +50,11 @@ public final class FaceTest {
         theClass();
         theMethods();
         nothingElseIsSeen();
+        Due.part("All memory is the class's own rows");
+        nothingIsShared(CouncilStore.class);
+        for (Class<?> inside : CouncilStore.class.getDeclaredClasses()) {
+            nothingIsShared(inside);
+        }
         Due.exit();
     }
 
@@ -106,6 +111,16 @@ public final class FaceTest {
             int seen = inside.getModifiers() & (Modifier.PUBLIC | Modifier.PROTECTED);
             Due.due(inside.getName() + " is seen", seen, 0);
             Due.due(inside.getName() + " is static", Modifier.isStatic(inside.getModifiers()) ? 1 : 0, 1);
+        }
+    }
+
+    /** What is static is for all objects, so it's a number that never changes. */
+    private static void nothingIsShared(Class<?> of) {
+        for (Field f : of.getDeclaredFields()) {
+            if (Modifier.isStatic(f.getModifiers()) && !f.isSynthetic()) {
+                boolean constant = Modifier.isFinal(f.getModifiers()) && f.getType().isPrimitive();
+                Due.due(of.getName() + "." + f.getName() + " is a constant", constant ? 1 : 0, 1);
+            }
         }
     }
 

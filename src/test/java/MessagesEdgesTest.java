@@ -36,6 +36,7 @@ public final class MessagesEdgesTest {
         nextNotAboveLast();
         indexNotBelowNext();
         noGoesBack();
+        lateNoGoesForth();
         takenOfAnotherTerm();
         stateOfTermBelow();
         stateNotAboveCommit();
@@ -47,6 +48,7 @@ public final class MessagesEdgesTest {
         ofItsOwnTerm();
         moreThanHalfConfirm();
         laterRoundConfirms();
+        lookedAtByReadAndTakenAlone();
         sixteenWait();
         readByALeader();
         commitHasItsTerm();
@@ -562,6 +564,23 @@ public final class MessagesEdgesTest {
         Due.bring(y, APPEND, 0, 2);
         Due.due("PREV and the number of ENTRIES", y.told(2, 5), 4);
         Due.due("the sender's", y.told(2, 6), 3);
+        lateAppendToALongerLog();
+    }
+
+    /** The APPEND of 2 to 5 comes again when node 2 has 7 ENTRIES, of which it knows no COMMIT. */
+    private static void lateAppendToALongerLog() {
+        CouncilStore x = withCommit(7);
+        x.beat(0);
+        x.deliver(find(x, APPEND, 0, 2, 4, 1), true);
+        Due.syncAndBring(x, TAKEN, 2, 0);
+        x.deliver(find(x, APPEND, 0, 2, 4, 5), false);
+        x.sync(2);
+        Due.restart(x, 2, 0);
+        Due.due("LAST", x.told(2, 5), 7);
+        Due.due("COMMIT", x.told(2, 6), 0);
+        x.deliver(find(x, APPEND, 0, 2, 4, 1), false);
+        Due.due("not the sender's, not LAST", x.told(2, 6), 5);
+        Due.due("LAST", x.told(2, 5), 7);
     }
 
     private static void commitIfMore() {
@@ -670,6 +689,30 @@ public final class MessagesEdgesTest {
         dueLastMessage(x, APPEND, 0, 1, 2, 4, 2, 1, 0, 4);
     }
 
+    /** Node 0 has 2 to 5 of TERM 1; node 1, of a later TERM, goes back one by one, until its first no comes again. */
+    private static void lateNoGoesForth() {
+        Due.part("TAKEN: No: NEXT is the greater of MATCH + 1 and i + 1, though that's more than it was");
+        CouncilStore x = Due.led(3);
+        propose(x, 0, 4);
+        Due.elect(x, 1, 2);
+        propose(x, 1, 5);
+        Due.restart(x, 1, 0);
+        Due.elect(x, 1, 2);
+        int term = x.told(1, 1);
+        x.sync(1);
+        Due.bring(x, APPEND, 1, 0);
+        x.sync(0);
+        x.deliver(find(x, TAKEN, 0, 1, 4, 5), true);
+        dueLastMessage(x, APPEND, 1, 0, term, 5, 2, 3, 0, 0);
+        Due.bring(x, APPEND, 1, 0);
+        x.deliver(find(x, TAKEN, 0, 1, 4, 4), false);
+        dueLastMessage(x, APPEND, 1, 0, term, 4, 2, 4, 0, 0);
+        x.deliver(find(x, TAKEN, 0, 1, 4, 5), false);
+        dueLastMessage(x, APPEND, 1, 0, term, 5, 2, 3, 0, 0);
+        x.beat(1);
+        Due.due("PREV of the next", x.message(find(x, APPEND, 1, 0, 4, 5), 4), 5);
+    }
+
     /** TAKEN of TERM 1 comes to the leader of TERM 2, one of TERM 2 makes the leader of TERM 1 a follower. */
     private static void takenOfAnotherTerm() {
         Due.part("TAKEN: a leader with that TERM");
@@ -734,6 +777,11 @@ public final class MessagesEdgesTest {
             x.snapshot(2);
             x.sync(2);
             dueNotTaken(x, commit);
+            Due.restart(x, 2, 0);
+            Due.due("LEADER", x.told(2, 4), -1);
+            bringState(x);
+            Due.due("LEADER the sender", x.told(2, 4), 0);
+            Due.due("COMMIT", x.told(2, 6), commit);
         }
     }
 
@@ -922,6 +970,33 @@ public final class MessagesEdgesTest {
         y.deliver(find(y, APPEND, 0, 1, 7, 0), false);
         Due.bring(y, TAKEN, 1, 0);
         Due.due("an earlier one doesn't", y.told(0, 12), 1);
+    }
+
+    /** Two of three would do; nothing but a TAKEN brings the second. */
+    private static void lookedAtByReadAndTakenAlone() {
+        Due.part("READS are looked at: by read and TAKEN; the answer is what the STORE has then");
+        CouncilStore x = Due.led(3);
+        Due.read(x, 0, "k");
+        Due.loseAll(x);
+        Due.put(x, "k", "v", 0);
+        propose(x, 0, 1);
+        x.beat(0);
+        x.snapshot(0);
+        x.sync(0);
+        Due.due("waits after propose, sync, beat and snapshot", x.told(0, 12), 1);
+        Due.due("ROUND", x.message(find(x, APPEND, 0, 1, 6, 1), 7), 1);
+        bringEntries(x, 0, 1, 1);
+        Due.due("waits while the TAKEN is on its way", x.told(0, 12), 1);
+        Due.dueThrows("answer", Due.MISSING, () -> x.answer(0, 0, 0));
+        bringTaken(x, 1, 0, 2);
+        Due.due("done", x.told(0, 12), 0);
+        Due.due("with what that TAKEN brought to COMMIT", x.answer(0, 0, 0), 1);
+        Due.due("REVISION then", x.answer(0, 0, 3), 1);
+        Due.put(x, "k", "w", 0);
+        Due.done(x, 0, 3);
+        Due.due("the STORE goes on", Due.pair(x, 0, "k", 0, 3), 2);
+        Due.due("the answer doesn't", x.answer(0, 0, 2), 1);
+        Due.due("nor its REVISION", x.answer(0, 0, 3), 1);
     }
 
     private static void sixteenWait() {

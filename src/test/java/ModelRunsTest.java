@@ -22,6 +22,7 @@ public final class ModelRunsTest {
     private final PlainModel plain = new PlainModel();
     private final StringBuilder done = new StringBuilder();
     private boolean failed;
+    private int left;
     private final int mood;
 
     private ModelRunsTest(int seed) {
@@ -34,10 +35,17 @@ public final class ModelRunsTest {
         int from = args.length > 0 ? Integer.parseInt(args[0]) : 1;
         int to = args.length > 1 ? Integer.parseInt(args[1]) : 250;
         int wrong = 0;
-        for (int seed = from; seed <= to; seed++) {
-            ModelRunsTest run = new ModelRunsTest(seed);
-            run.run();
-            wrong += run.failed ? 1 : 0;
+        // two at a time, a few calls of each in turn: an object mustn't feel that there is another
+        for (int seed = from; seed <= to; seed += 2) {
+            ModelRunsTest one = new ModelRunsTest(seed);
+            ModelRunsTest other = new ModelRunsTest(Math.min(seed + 1, to));
+            one.begin();
+            other.begin();
+            while (one.left > 0 || other.left > 0) {
+                one.goOn();
+                other.goOn();
+            }
+            wrong += one.failed || other.failed ? 1 : 0;
         }
         if (args.length > 0) {
             SEEN.entrySet().stream().sorted(Map.Entry.comparingByKey()).forEach(e -> System.out.println(e.getKey() + " " + e.getValue()));
@@ -83,27 +91,34 @@ public final class ModelRunsTest {
         if (!due.equals(got) && !failed) {
             failed = true;
             System.out.println("seed " + seed + ": " + name + Arrays.toString(args) + " answered " + got + ", due is " + due);
+            if (System.getenv("TRACE") != null) {
+                System.out.println(done);
+            }
         }
         return due;
     }
 
-    private void run() {
+    private void begin() {
         if (random.nextInt(10) == 0) {
-            for (int i = 0; i < 5 && !failed; i++) {
+            for (int i = 0; i < 5; i++) {
                 act(random.nextInt(100));
             }
         }
         call("nodes", new int[] {3, 5, 3, 1, 2, 4, 7, 6}[random.nextInt(8)]);
-        int calls = random.nextInt(8) == 0 ? 600 : 300;
-        for (int i = 0; i < calls && !failed; i++) {
+        left = random.nextInt(8) == 0 ? 600 : 300;
+    }
+
+    private void goOn() {
+        if (left > 0) {
             act(random.nextInt(100));
             lookAtAll();
             if (random.nextInt(4) == 0) {
                 ask();
             }
+            left--;
         }
-        if (failed && System.getenv("TRACE") != null) {
-            System.out.println(done);
+        if (failed) {
+            left = 0;
         }
     }
 
@@ -333,6 +348,12 @@ public final class ModelRunsTest {
         }
     }
 
+    private void rowsThatMustStay() {
+        if (random.nextInt(25) == 0) {
+            argument(other());
+        }
+    }
+
     /** Any call, with numbers from far outside as well. */
     private void wild() {
         Method any = REAL.get(NAMES.get(random.nextInt(NAMES.size())));
@@ -356,6 +377,7 @@ public final class ModelRunsTest {
         for (int what = -1; what <= 4; what++) {
             keyAndOther();
             call("range", who, near(0, latest), what, near(0, 3), near(0, 3));
+            rowsThatMustStay();
             call("event", who, near(1, latest + 1), what, near(0, 3), near(0, 3));
             call("message", messageNumber(), what * 3);
         }
@@ -369,6 +391,7 @@ public final class ModelRunsTest {
         int leads = leader();
         int reads = leads >= 0 && leads < plain.ns.size() ? plain.ns.get(leads).reads.size() : 0;
         for (int what = -1; what <= 4; what++) {
+            rowsThatMustStay();
             call("answer", leads, near(0, reads), what);
         }
         call("told", near(0, 7), near(0, 14));

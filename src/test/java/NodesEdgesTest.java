@@ -27,6 +27,8 @@ public final class NodesEdgesTest {
         syncAnswers();
         syncCommits();
         sendsWhileNotSynced();
+        everySortWaits();
+        asWhenItWasSent();
         keepOfNone();
         keepOfSome();
         keepIsBad();
@@ -155,6 +157,12 @@ public final class NodesEdgesTest {
         x.compact(0, 1);
         x.nodes(1);
         Due.dueTold(x, 0, 0, 0, -1, 0, -1, 0, 0, 0, 0, 0, 0, 0, 0, 0, 0);
+        x.rise(0);
+        x.lease(1, 1, true);
+        x.propose(0);
+        x.sync(0);
+        Due.due("OUTCOME of INDEX 2 now", x.outcome(0, 2, 0), 2);
+        Due.due("REVISION then", x.outcome(0, 2, 1), 0);
         x.nodes(7);
         for (int node = 0; node < 7; node++) {
             Due.dueTold(x, node, 0, 0, -1, 0, -1, 0, 0, 0, 0, 0, 0, 0, 0, 0, 0);
@@ -398,6 +406,67 @@ public final class NodesEdgesTest {
         y.rise(0);
         Due.due("TERM and VOTE aren't: NET", y.count(2), 0);
         Due.due("OUTBOX", y.told(0, 9), 1);
+    }
+
+    private static void dueWaits(CouncilStore x, String sort, int node, int was, int more) {
+        Due.due(sort + ": NET", x.count(2), was);
+        Due.due(sort + ": OUTBOX", x.told(node, 9), more);
+        Due.due(sort + ": sync", x.sync(node), more);
+    }
+
+    private static void everySortWaits() {
+        Due.part("A message that a node sends while something isn't synced waits in its OUTBOX: each sort");
+        CouncilStore x = Due.council(3);
+        x.rise(0);
+        dueWaits(x, "ASK", 0, 0, 2);
+        Due.bring(x, ASK, 0, 1);
+        dueWaits(x, "ANSWER", 1, 1, 1);
+        Due.bring(x, 2, 1, 0);
+        dueWaits(x, "APPEND", 0, 1, 2);
+        Due.bring(x, APPEND, 0, 1);
+        dueWaits(x, "TAKEN", 1, 2, 1);
+        Due.bring(x, TAKEN, 1, 0);
+        Due.loseAll(x);
+        x.snapshot(0);
+        x.beat(0);
+        dueWaits(x, "STATE", 0, 0, 2);
+        Due.dueMessage(x, 1, STATE, 0, 2, 1, 1, 1, 0, 0, 0);
+        Due.bring(x, STATE, 0, 2);
+        dueWaits(x, "TAKEN of a STATE", 2, 1, 1);
+        CouncilStore y = Due.led(2);
+        y.beat(0);
+        y.rise(1);
+        Due.bring(y, APPEND, 0, 1);
+        dueWaits(y, "TAKEN of no, behind an ASK", 1, 0, 2);
+    }
+
+    /** COMMIT, ROUND and the ENTRIES of a leader go on while an APPEND of it waits; so does its TERM. */
+    private static void asWhenItWasSent() {
+        Due.part("waits in its OUTBOX: MESSAGES are as when they were sent");
+        CouncilStore x = Due.led(2);
+        x.propose(0);
+        x.sync(0);
+        Due.bring(x, APPEND, 0, 1);
+        x.sync(1);
+        x.propose(0);
+        Due.bring(x, TAKEN, 1, 0);
+        Due.read(x, 0, "k");
+        x.propose(0);
+        Due.due("COMMIT", x.told(0, 6), 2);
+        x.snapshot(0);
+        x.beat(0);
+        x.rise(1);
+        x.sync(1);
+        Due.bring(x, ASK, 1, 0);
+        Due.due("TERM", x.told(0, 1), 2);
+        Due.due("it's no leader any more", x.told(0, 3), 0);
+        Due.due("sync", x.sync(0), 6);
+        Due.dueMessage(x, 0, APPEND, 0, 1, 1, 1, 1, 2, 0, 1);
+        Due.dueMessage(x, 1, APPEND, 0, 1, 1, 2, 1, 1, 0, 2);
+        Due.dueMessage(x, 2, APPEND, 0, 1, 1, 2, 1, 1, 1, 2);
+        Due.dueMessage(x, 3, APPEND, 0, 1, 1, 2, 1, 2, 1, 2);
+        Due.dueMessage(x, 4, APPEND, 0, 1, 1, 2, 1, 2, 1, 2);
+        Due.dueMessage(x, 5, 2, 0, 1, 2, 0, 0, 0, 0, 0);
     }
 
     private static void keepOfNone() {
