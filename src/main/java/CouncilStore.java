@@ -1330,7 +1330,9 @@ public final class CouncilStore {
 
         /** ENTRIES behind it stay only if the LOG leads through it. */
         private void takeImage(Store taken) {
-            int gone = termAt(taken.index) == taken.term ? taken.index - image.index : log.size();
+            int upToIt = taken.index - image.index;
+            boolean through = upToIt >= 1 && upToIt <= log.size() && log.get(upToIt - 1).term == taken.term;
+            int gone = through ? upToIt : log.size();
             for (int i = 0; i < gone && !log.isEmpty(); i++) {
                 log.remove(0);
             }

@@ -43,7 +43,7 @@ public final class ReadmeTest {
     }
 
     private static List<String> run(String name, String source) throws IOException, ReflectiveOperationException {
-        // beside the class, so that it's found without a path of its own
+        // beside this test, so that it's found without a path of its own
         Path classes = Path.of(URI.create(ReadmeTest.class.getProtectionDomain().getCodeSource().getLocation().toString()));
         JavaCompiler compiler = ToolProvider.getSystemJavaCompiler();
         JavaFileObject file = new SimpleJavaFileObject(URI.create("string:///" + name + ".java"), JavaFileObject.Kind.SOURCE) {
@@ -52,7 +52,7 @@ public final class ReadmeTest {
                 return source;
             }
         };
-        List<String> options = List.of("-d", classes.toString(), "-cp", classes.toString());
+        List<String> options = List.of("-d", classes.toString(), "-cp", System.getProperty("java.class.path"));
         boolean compiled = compiler.getTask(null, null, null, options, null, List.of(file)).call();
         Due.due(name + " compiles", compiled ? 1 : 0, 1);
         return compiled ? printedBy(Class.forName(name)) : List.of();
